@@ -8,6 +8,7 @@ public final class Setsieve {
   private static final int REFUSED = -9;
   private static final int WORLD = 96;
   private static final int WORD = 64;
+  private static final long LOWER_HALF = 0xFFFFFFFFL;
   private static final int SETS = 6;
   private static final int ALL_SETS = (1 << SETS) - 1;
   private static final int POINTS = 12;
@@ -103,7 +104,7 @@ public final class Setsieve {
 
   public int opposite(int set) throws IndexOutOfBoundsException {
     Row row = setAt(set);
-    row.turnStretch(0, WORLD);
+    row.turnAll();
     return row.count();
   }
 
@@ -128,8 +129,8 @@ public final class Setsieve {
 
   public int words(int set, int low, int high) throws IndexOutOfBoundsException {
     Row row = setAt(set);
-    // The cast would carry a sign into the upper half, where high's digits belong.
-    row.becomeWords((low & 0xFFFFFFFFL) | ((long) high << 32), 0);
+    // Unmasked, a low below 0 would fill the digits that are high's.
+    row.becomeWords((low & LOWER_HALF) | ((long) high << 32), 0);
     return row.count();
   }
 
@@ -248,7 +249,7 @@ public final class Setsieve {
 
   public int nth(int set, int n) throws IndexOutOfBoundsException, IllegalArgumentException {
     Row row = setAt(set);
-    requireWithin(n, 0, Integer.MAX_VALUE);
+    requireNotBelow(n, 0);
     return row.numberAt(n);
   }
 
@@ -489,14 +490,19 @@ public final class Setsieve {
   }
 
   private static void requireWithin(int value, int least, int greatest) {
-    if (value < least || value > greatest) {
-      throw new IllegalArgumentException("not what can be asked");
+    requireNotBelow(value, least);
+    requireNotAbove(value, greatest);
+  }
+
+  private static void requireNotBelow(int value, int least) {
+    if (value < least) {
+      throw new IllegalArgumentException("less than there can be");
     }
   }
 
   private static void requireNotAbove(int value, int greatest) {
     if (value > greatest) {
-      throw new IllegalArgumentException("above the world");
+      throw new IllegalArgumentException("more than there can be");
     }
   }
 
@@ -529,7 +535,7 @@ public final class Setsieve {
 
   private Row meetOfFamily(int mask) {
     family.becomeWords(0, 0);
-    family.turnStretch(0, WORLD);
+    family.turnAll();
     for (int set = 0; set < SETS; set++) {
       if ((mask >> set & 1) == 1) {
         family.meetWith(sets[set]);
@@ -643,6 +649,10 @@ public final class Setsieve {
     void turnStretch(int from, int to) {
       low ^= lowOfStretch(from, to);
       high ^= highOfStretch(from, to);
+    }
+
+    void turnAll() {
+      becomeWords(~low, high ^ LOWER_HALF);
     }
 
     void joinWith(Row other) {
@@ -994,18 +1004,18 @@ public final class Setsieve {
     /** The join turned is the meet of both turned, and the meet turned is the join of both. */
     private boolean turnedAgree(Row row, Row other) {
       turned.become(row);
-      turned.turnStretch(0, WORLD);
+      turned.turnAll();
       otherTurned.become(other);
-      otherTurned.turnStretch(0, WORLD);
+      otherTurned.turnAll();
       scratch.become(turned);
       scratch.meetWith(otherTurned);
-      scratch.turnStretch(0, WORLD);
+      scratch.turnAll();
       if (!scratch.sameAs(joined)) {
         return false;
       }
       scratch.become(turned);
       scratch.joinWith(otherTurned);
-      scratch.turnStretch(0, WORLD);
+      scratch.turnAll();
       return scratch.sameAs(met);
     }
 
@@ -1020,8 +1030,8 @@ public final class Setsieve {
 
     boolean holdForSet(Row row) {
       turned.become(row);
-      turned.turnStretch(0, WORLD);
-      turned.turnStretch(0, WORLD);
+      turned.turnAll();
+      turned.turnAll();
       if (!turned.sameAs(row)) {
         return false;
       }
