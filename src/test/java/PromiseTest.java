@@ -4,7 +4,10 @@ import java.lang.reflect.Modifier;
 import java.util.Arrays;
 import java.util.TreeSet;
 
-/** Each promise of the document by examples: ordinary inputs, edges, wrong inputs. */
+/**
+ * Each promise of the document by examples, ordinary inputs for the most part, and the face. The
+ * edges and the wrong inputs are asked sentence by sentence in the other tests.
+ */
 public final class PromiseTest {
   private static final Class<?> NO_PLACE = IndexOutOfBoundsException.class;
   private static final Class<?> WRONG = IllegalArgumentException.class;
@@ -13,10 +16,6 @@ public final class PromiseTest {
 
   private static int wrong = 0;
   private static int promise = 0;
-
-  interface Call {
-    Object on(Setsieve x);
-  }
 
   private static void due(String what, Object got, Object want) {
     if (!want.equals(got)) {
@@ -41,40 +40,6 @@ public final class PromiseTest {
       all.append(x.isRelated(pair / 12, pair % 12) ? '1' : '0');
     }
     return all.toString();
-  }
-
-  private static void throwsIt(Setsieve x, String what, Class<?> kind, Call call) {
-    String before = seen(x);
-    int refusals = x.house(5);
-    Object got;
-    try {
-      got = call.on(x);
-    } catch (RuntimeException e) {
-      got = e.getClass();
-    }
-    due(what, got, kind);
-    due(what + ", then what is seen", seen(x), before);
-    due(what + ", then how often REFUSED", x.house(5), refusals);
-  }
-
-  private static void refused(Setsieve x, String what, Call call) {
-    String before = seen(x);
-    int refusals = x.house(5);
-    due(what, call.on(x), -9);
-    due(what + ", then what is seen", seen(x), before);
-    due(what + ", then how often REFUSED", x.house(5), refusals + 1);
-  }
-
-  interface OfSet {
-    Object on(Setsieve x, int set);
-  }
-
-  /** Whatever the other arguments are, a set that there is not goes ahead. */
-  private static void noSuchSet(String what, OfSet call) {
-    Setsieve x = some();
-    for (int set : new int[] {-1, 6, MIN, MAX}) {
-      throwsIt(x, what + " of set " + set, NO_PLACE, y -> call.on(y, set));
-    }
   }
 
   private static Setsieve with(int... numbers) {
@@ -178,7 +143,6 @@ public final class PromiseTest {
     due("text", x.text(0), "{0, 31, 32, 63, 64, 95}");
     due("put(5, 1)", x.put(5, 1), 1);
     due("text of the last set", x.text(5), "{1}");
-    wrongNumber("put", (y, set, number) -> y.put(set, number));
 
     promise = 3;
     due("drop(0, 64)", x.drop(0, 64), 5);
@@ -186,7 +150,6 @@ public final class PromiseTest {
     due("drop(0, 0)", x.drop(0, 0), 4);
     due("drop(0, 95)", x.drop(0, 95), 3);
     due("text", x.text(0), "{31, 32, 63}");
-    wrongNumber("drop", (y, set, number) -> y.drop(set, number));
 
     promise = 4;
     due("flip(0, 63)", x.flip(0, 63), 2);
@@ -195,7 +158,6 @@ public final class PromiseTest {
     due("flip(0, 0)", x.flip(0, 0), 5);
     due("flip(0, 0) again", x.flip(0, 0), 4);
     due("text", x.text(0), "{31, 32, 64, 95}");
-    wrongNumber("flip", (y, set, number) -> y.flip(set, number));
 
     promise = 5;
     due("tell(0, 1, true)", x.tell(0, 1, true), 5);
@@ -203,24 +165,6 @@ public final class PromiseTest {
     due("tell(0, 95, false)", x.tell(0, 95, false), 4);
     due("tell(0, 94, false)", x.tell(0, 94, false), 4);
     due("text", x.text(0), "{1, 31, 32, 64}");
-    wrongNumber("tell true", (y, set, number) -> y.tell(set, number, true));
-    wrongNumber("tell false", (y, set, number) -> y.tell(set, number, false));
-  }
-
-  interface OfNumber {
-    Object on(Setsieve x, int set, int number);
-  }
-
-  private static void wrongNumber(String name, OfNumber call) {
-    Setsieve x = some();
-    for (int number : new int[] {96, MAX}) {
-      throwsIt(x, name + " " + number, WRONG, y -> call.on(y, 0, number));
-    }
-    for (int number : new int[] {-1, -9, MIN}) {
-      refused(x, name + " " + number, y -> call.on(y, 0, number));
-    }
-    noSuchSet(name + " 96", (y, set) -> call.on(y, set, 96));
-    noSuchSet(name + " -1", (y, set) -> call.on(y, set, -1));
   }
 
   private static void stretches() {
@@ -235,8 +179,6 @@ public final class PromiseTest {
     due("fill(0, 1, 95, false)", x.fill(0, 1, 95, false), 2);
     due("text", x.text(0), "{0, 95}");
     due("fill(0, 0, 0, false)", x.fill(0, 0, 0, false), 2);
-    wrongStretch("fill true", (y, set, from, to) -> y.fill(set, from, to, true));
-    wrongStretch("fill false", (y, set, from, to) -> y.fill(set, from, to, false));
 
     promise = 7;
     x.fill(0, 0, 96, true);
@@ -244,7 +186,6 @@ public final class PromiseTest {
     due("drain(0, 66, 96)", x.drain(0, 66, 96), 4);
     due("drain(0, 1, 1)", x.drain(0, 1, 1), 4);
     due("text", x.text(0), "{0, 1, 64, 65}");
-    wrongStretch("drain", (y, set, from, to) -> y.drain(set, from, to));
 
     promise = 8;
     due("turn(0, 1, 3)", x.turn(0, 1, 3), 4);
@@ -253,7 +194,6 @@ public final class PromiseTest {
     due("text", x.text(0), "{0, 2, 63, 66}");
     due("turn(0, 96, 96)", x.turn(0, 96, 96), 4);
     due("turn(0, 0, 96)", x.turn(0, 0, 96), 92);
-    wrongStretch("turn", (y, set, from, to) -> y.turn(set, from, to));
 
     promise = 9;
     x.empty(0);
@@ -263,25 +203,6 @@ public final class PromiseTest {
     due("stretch(0, 94, 96)", x.stretch(0, 94, 96), 7);
     due("stretch(0, 0, 0)", x.stretch(0, 0, 0), 7);
     due("stretch(0, 0, 96)", x.stretch(0, 0, 96), 96);
-    wrongStretch("stretch", (y, set, from, to) -> y.stretch(set, from, to));
-  }
-
-  interface OfStretch {
-    Object on(Setsieve x, int set, int from, int to);
-  }
-
-  private static void wrongStretch(String name, OfStretch call) {
-    Setsieve x = some();
-    int[][] above = {{0, 97}, {97, 97}, {97, 0}, {-1, 97}, {97, -1}, {MAX, MAX}, {MIN, MAX}};
-    for (int[] ends : above) {
-      throwsIt(x, name + Arrays.toString(ends), WRONG, y -> call.on(y, 0, ends[0], ends[1]));
-    }
-    int[][] not = {{-1, 5}, {3, 2}, {0, -1}, {96, 95}, {-1, -1}, {-2, -1}, {MIN, 96}, {0, MIN}};
-    for (int[] ends : not) {
-      refused(x, name + Arrays.toString(ends), y -> call.on(y, 0, ends[0], ends[1]));
-    }
-    noSuchSet(name + " 0 to 97", (y, set) -> call.on(y, set, 0, 97));
-    noSuchSet(name + " 3 to 2", (y, set) -> call.on(y, set, 3, 2));
   }
 
   private static void wholes() {
@@ -290,7 +211,6 @@ public final class PromiseTest {
     due("empty(0)", x.empty(0), 3);
     due("empty(0) again", x.empty(0), 0);
     due("text", x.text(0), "{}");
-    noSuchSet("empty", (y, set) -> y.empty(set));
 
     promise = 11;
     due("opposite(0)", x.opposite(0), 96);
@@ -298,7 +218,6 @@ public final class PromiseTest {
     x.drop(0, 0);
     due("opposite(0)", x.opposite(0), 2);
     due("text", x.text(0), "{0, 95}");
-    noSuchSet("opposite", (y, set) -> y.opposite(set));
 
     promise = 12;
     x.stretch(1, 3, 9);
@@ -308,8 +227,6 @@ public final class PromiseTest {
     due("the copy stays", x.text(1), "{0, 95}");
     due("copy(0, 0)", x.copy(0, 0), 3);
     due("copy of none", x.copy(2, 0), 0);
-    noSuchSet("copy from", (y, set) -> y.copy(set, 0));
-    noSuchSet("copy into", (y, set) -> y.copy(0, set));
   }
 
   private static void parts() {
@@ -331,8 +248,6 @@ public final class PromiseTest {
     due("text", x.text(1), "{0, 5, 63}");
     due("part(0, 1, 96, 0)", x.part(0, 1, 96, 0), 4);
     due("text", x.text(0), "{4, 62, 63, 94}");
-    wrongStretch("part", (y, set, from, to) -> y.part(set, from, to, 1));
-    wrongStretch("part into", (y, set, from, to) -> y.part(1, from, to, set));
 
     promise = 14;
     x.put(3, 95);
@@ -344,7 +259,6 @@ public final class PromiseTest {
     due("words(3, -1, -1)", x.words(3, -1, -1), 64);
     due("length", x.length(3), 64);
     due("words(3, 0, 0)", x.words(3, 0, 0), 0);
-    noSuchSet("words", (y, set) -> y.words(set, 1, 1));
   }
 
   private static Setsieve two() {
@@ -362,32 +276,24 @@ public final class PromiseTest {
     due("join(0, 1)", x.join(0, 1), 7);
     due("text", x.text(0) + x.text(1), "{1, 2, 3, 63, 64, 90, 95}{2, 3, 64, 95}");
     due("join(0, 0)", x.join(0, 0), 7);
-    noSuchSet("join", (y, set) -> y.join(set, 0));
-    noSuchSet("join with", (y, set) -> y.join(0, set));
 
     promise = 16;
     x = two();
     due("meet(0, 1)", x.meet(0, 1), 2);
     due("text", x.text(0) + x.text(1), "{2, 64}{2, 3, 64, 95}");
     due("meet(1, 1)", x.meet(1, 1), 4);
-    noSuchSet("meet", (y, set) -> y.meet(set, 0));
-    noSuchSet("meet with", (y, set) -> y.meet(0, set));
 
     promise = 17;
     x = two();
     due("less(0, 1)", x.less(0, 1), 3);
     due("text", x.text(0) + x.text(1), "{1, 63, 90}{2, 3, 64, 95}");
     due("less(1, 1)", x.less(1, 1), 0);
-    noSuchSet("less", (y, set) -> y.less(set, 0));
-    noSuchSet("less with", (y, set) -> y.less(0, set));
 
     promise = 18;
     x = two();
     due("odd(0, 1)", x.odd(0, 1), 5);
     due("text", x.text(0) + x.text(1), "{1, 3, 63, 90, 95}{2, 3, 64, 95}");
     due("odd(1, 1)", x.odd(1, 1), 0);
-    noSuchSet("odd", (y, set) -> y.odd(set, 0));
-    noSuchSet("odd with", (y, set) -> y.odd(0, set));
   }
 
   private static void families() {
@@ -401,7 +307,6 @@ public final class PromiseTest {
     due("joinAll(32, 4)", x.joinAll(32, 4), 1);
     due("joinAll(0, 4)", x.joinAll(0, 4), 0);
     due("joinAll(63, 5)", x.joinAll(63, 5), 8);
-    wrongMask("joinAll", (y, mask, into) -> y.joinAll(mask, into));
 
     promise = 20;
     x = two();
@@ -413,16 +318,6 @@ public final class PromiseTest {
     due("meetAll(0, 5)", x.meetAll(0, 5), 96);
     due("meetAll(42, 5)", x.meetAll(42, 5), 4);
     due("meetAll(63, 5)", x.meetAll(63, 5), 0);
-    wrongMask("meetAll", (y, mask, into) -> y.meetAll(mask, into));
-  }
-
-  private static void wrongMask(String name, OfNumber call) {
-    Setsieve x = some();
-    for (int mask : new int[] {-1, 64, MIN, MAX}) {
-      throwsIt(x, name + " " + mask, WRONG, y -> call.on(y, mask, 4));
-    }
-    noSuchSet(name + " 64", (y, set) -> call.on(y, 64, set));
-    noSuchSet(name + " 3", (y, set) -> call.on(y, 3, set));
   }
 
   private static void askingSets() {
@@ -430,7 +325,6 @@ public final class PromiseTest {
     promise = 21;
     due("size(0)", x.size(0), 5);
     due("size(1)", x.size(1), 0);
-    noSuchSet("size", (y, set) -> y.size(set));
 
     promise = 22;
     for (int number : new int[] {0, 5, 63, 64, 95}) {
@@ -439,9 +333,6 @@ public final class PromiseTest {
     for (int number : new int[] {1, 31, 32, 62, 65, 94, 96, 127, 128, 159, MAX}) {
       due("has(0, " + number + ")", x.has(0, number), 0);
     }
-    refused(x, "has(0, -1)", y -> y.has(0, -1));
-    refused(x, "has(0, MIN)", y -> y.has(0, MIN));
-    noSuchSet("has", (y, set) -> y.has(set, -1));
 
     promise = 24;
     due("length(0)", x.length(0), 96);
@@ -450,14 +341,12 @@ public final class PromiseTest {
     due("length of {0}", x.length(1), 1);
     x.put(1, 64);
     due("length of {0, 64}", x.length(1), 65);
-    noSuchSet("length", (y, set) -> y.length(set));
 
     promise = 25;
     due("isEmpty(0)", x.isEmpty(0), false);
     due("isEmpty(2)", x.isEmpty(2), true);
     x.put(2, 95);
     due("isEmpty of {95}", x.isEmpty(2), false);
-    noSuchSet("isEmpty", (y, set) -> y.isEmpty(set));
   }
 
   private static void finding() {
@@ -478,20 +367,6 @@ public final class PromiseTest {
     x.opposite(1);
     due("find(1, 0, 1)", x.find(1, 0, 1), 96);
     due("find(1, 95, 3)", x.find(1, 95, 3), -1);
-    for (int what : new int[] {-1, 4, MIN, MAX}) {
-      throwsIt(x, "find what " + what, WRONG, y -> y.find(0, 5, what));
-      throwsIt(x, "find at -9 what " + what, WRONG, y -> y.find(0, -9, what));
-    }
-    for (int at : new int[] {-2, MIN}) {
-      for (int what = 0; what < 4; what++) {
-        int asked = what;
-        refused(x, "find at " + at + " what " + what, y -> y.find(0, at, asked));
-      }
-    }
-    refused(x, "find(0, -1, 0)", y -> y.find(0, -1, 0));
-    refused(x, "find(0, -1, 1)", y -> y.find(0, -1, 1));
-    noSuchSet("find", (y, set) -> y.find(set, -9, 0));
-    noSuchSet("find what 4", (y, set) -> y.find(set, 0, 4));
   }
 
   private static void comparing() {
@@ -504,8 +379,6 @@ public final class PromiseTest {
     due("touch(2, 2)", x.touch(2, 2), false);
     x.put(1, 90);
     due("touch by 90", x.touch(1, 0), true);
-    noSuchSet("touch", (y, set) -> y.touch(set, 0));
-    noSuchSet("touch other", (y, set) -> y.touch(0, set));
 
     promise = 27;
     due("areSame(0, 1)", x.areSame(0, 1), false);
@@ -518,8 +391,6 @@ public final class PromiseTest {
     x.flip(2, 95);
     x.flip(2, 0);
     due("areSame but for 0", x.areSame(0, 2), false);
-    noSuchSet("areSame", (y, set) -> y.areSame(set, 0));
-    noSuchSet("areSame other", (y, set) -> y.areSame(0, set));
 
     promise = 28;
     due("lies(0, 2)", x.lies(0, 2), true);
@@ -528,8 +399,6 @@ public final class PromiseTest {
     due("lies(3, 0)", x.lies(3, 0), true);
     x.put(3, 95);
     due("lies of {95}", x.lies(3, 0), false);
-    noSuchSet("lies", (y, set) -> y.lies(set, 0));
-    noSuchSet("lies other", (y, set) -> y.lies(0, set));
   }
 
   private static void writing() {
@@ -544,13 +413,11 @@ public final class PromiseTest {
     x.empty(1);
     x.put(1, 66);
     due("code of {66}", x.code(1), 1234 ^ 8);
-    noSuchSet("code", (y, set) -> y.code(set));
 
     promise = 30;
     due("text(0)", x.text(0), "{0, 31, 32, 63, 64, 95}");
     due("text(1)", x.text(1), "{66}");
     due("text(2)", x.text(2), "{}");
-    noSuchSet("text", (y, set) -> y.text(set));
 
     promise = 31;
     for (int what = 1; what <= 3; what++) {
@@ -566,10 +433,6 @@ public final class PromiseTest {
     due("ofWords(2, 1)", x.ofWords(2, 1), 32);
     due("ofWords(2, 2)", x.ofWords(2, 2), MIN);
     due("ofWords(2, 3)", x.ofWords(2, 3), 0);
-    for (int what : new int[] {-1, 4, MIN, MAX}) {
-      throwsIt(x, "ofWords what " + what, WRONG, y -> y.ofWords(0, what));
-    }
-    noSuchSet("ofWords", (y, set) -> y.ofWords(set, 4));
   }
 
   private static void counting() {
@@ -579,10 +442,6 @@ public final class PromiseTest {
     for (int[] call : ranks) {
       due("rank(0, " + call[0] + ")", x.rank(0, call[0]), call[1]);
     }
-    for (int number : new int[] {-1, 97, MIN, MAX}) {
-      throwsIt(x, "rank " + number, WRONG, y -> y.rank(0, number));
-    }
-    noSuchSet("rank", (y, set) -> y.rank(set, 97));
 
     promise = 33;
     int[][] places = {{0, 0}, {1, 5}, {2, 63}, {3, 64}, {4, 95}, {5, -1}, {96, -1}, {MAX, -1}};
@@ -590,9 +449,6 @@ public final class PromiseTest {
       due("nth(0, " + call[0] + ")", x.nth(0, call[0]), call[1]);
     }
     due("nth(1, 0)", x.nth(1, 0), -1);
-    throwsIt(x, "nth -1", WRONG, y -> y.nth(0, -1));
-    throwsIt(x, "nth MIN", WRONG, y -> y.nth(0, MIN));
-    noSuchSet("nth", (y, set) -> y.nth(set, -1));
   }
 
   private static void sieving() {
@@ -603,9 +459,6 @@ public final class PromiseTest {
     due("sieve(95)", x.sieve(95), 94);
     due("sieve(1)", x.sieve(1), 0);
     due("sieve(2)", x.sieve(2), 1);
-    for (int upto : new int[] {0, -1, 96, MIN, MAX}) {
-      throwsIt(x, "sieve " + upto, WRONG, y -> y.sieve(upto));
-    }
 
     promise = 35;
     due("strike() of 2", x.strike(), 2);
@@ -632,26 +485,11 @@ public final class PromiseTest {
     due("text", x.text(5), "{2, 3, 5, 7, 11}");
     x.empty(5);
     due("still left", x.left(5), 5);
-    noSuchSet("left", (y, set) -> y.left(set));
 
     promise = 37;
     due("ofSieve(0)", x.ofSieve(0), 12);
     due("ofSieve(1)", x.ofSieve(1), 3);
     due("ofSieve(2)", x.ofSieve(2), 5);
-    for (int what : new int[] {-1, 3, MIN, MAX}) {
-      throwsIt(x, "ofSieve " + what, WRONG, y -> y.ofSieve(what));
-    }
-  }
-
-  interface OfPoint {
-    Object on(Setsieve x, int point);
-  }
-
-  private static void noSuchPoint(String what, OfPoint call) {
-    Setsieve x = some();
-    for (int point : new int[] {-1, 12, MIN, MAX}) {
-      throwsIt(x, what + " of point " + point, NO_PLACE, y -> call.on(y, point));
-    }
   }
 
   private static void relating() {
@@ -665,8 +503,6 @@ public final class PromiseTest {
     due("relate(0, 11, false)", x.relate(0, 11, false), 1);
     due("relate(5, 5, true)", x.relate(5, 5, true), 1);
     due("house(1)", x.house(1), 1);
-    noSuchPoint("relate from", (y, point) -> y.relate(point, 0, true));
-    noSuchPoint("relate to", (y, point) -> y.relate(0, point, true));
 
     promise = 39;
     x.words(0, -1, -1);
@@ -680,8 +516,6 @@ public final class PromiseTest {
     due("house(1)", x.house(1), 3);
     due("isRelated(3, 11)", x.isRelated(3, 11), true);
     due("isRelated(3, 1)", x.isRelated(3, 1), false);
-    noSuchPoint("rowFrom", (y, point) -> y.rowFrom(point, 0));
-    noSuchSet("rowFrom", (y, set) -> y.rowFrom(0, set));
 
     promise = 40;
     x.put(1, 95);
@@ -689,14 +523,10 @@ public final class PromiseTest {
     due("text", x.text(1), "{0, 11}");
     due("row(4, 1)", x.row(4, 1), 0);
     due("text", x.text(1), "{}");
-    noSuchPoint("row", (y, point) -> y.row(point, 0));
-    noSuchSet("row", (y, set) -> y.row(0, set));
 
     promise = 44;
     due("isRelated(5, 5)", x.isRelated(5, 5), true);
     due("isRelated(6, 6)", x.isRelated(6, 6), false);
-    noSuchPoint("isRelated from", (y, point) -> y.isRelated(point, 0));
-    noSuchPoint("isRelated to", (y, point) -> y.isRelated(0, point));
   }
 
   /** 11 to 10, 10 to 9 and so on down to 0. */
@@ -748,8 +578,6 @@ public final class PromiseTest {
       x.relate(point, point + 1, true);
     }
     due("reach(0, 5)", x.reach(0, 5), 11);
-    noSuchPoint("reach", (y, point) -> y.reach(point, 0));
-    noSuchSet("reach", (y, set) -> y.reach(0, set));
 
     promise = 45;
     x = new Setsieve();
@@ -769,13 +597,6 @@ public final class PromiseTest {
     due("isClosed() when closed", x.isClosed(), true);
   }
 
-  private static void noSuchRule(String what, OfPoint call) {
-    Setsieve x = some();
-    for (int rule : new int[] {-1, 8, MIN, MAX}) {
-      throwsIt(x, what + " of rule " + rule, NO_PLACE, y -> call.on(y, rule));
-    }
-  }
-
   private static void ruling() {
     promise = 46;
     Setsieve x = with(1);
@@ -789,9 +610,6 @@ public final class PromiseTest {
     x.put(4, 1);
     due("make(4), of the RULE as it was", x.make(4), 1);
     due("text", x.text(4), "{1, 95}");
-    noSuchRule("rule", (y, rule) -> y.rule(rule, 0, 1));
-    noSuchSet("rule set", (y, set) -> y.rule(0, set, 1));
-    noSuchSet("rule other", (y, set) -> y.rule(0, 1, set));
 
     promise = 47;
     due("noRule(0)", x.noRule(0), 1);
@@ -799,7 +617,6 @@ public final class PromiseTest {
     due("noRule(3)", x.noRule(3), 0);
     due("house(2)", x.house(2), 1);
     due("rule(0, ..) is new then", x.rule(0, 0, 1), 0);
-    noSuchRule("noRule", (y, rule) -> y.noRule(rule));
   }
 
   /** A rule for each of 8 steps, so that a set with 0 gets the numbers 1 to 8, last rule first. */
@@ -835,7 +652,6 @@ public final class PromiseTest {
     due("text", x.text(0), "{6, 7, 8, 9}");
     x.noRule(0);
     due("make(4) when it is gone", x.make(4), 0);
-    noSuchSet("make", (y, set) -> y.make(set));
 
     promise = 49;
     x = ladder();
@@ -849,7 +665,6 @@ public final class PromiseTest {
     x.noRule(0);
     due("keeps(2) when that rule is gone", x.keeps(2), true);
     due("text", x.text(2), "{0, 1, 2, 3, 4, 5, 6, 7}");
-    noSuchSet("keeps", (y, set) -> y.keeps(set));
   }
 
   private static void walking() {
@@ -863,12 +678,11 @@ public final class PromiseTest {
     due("walk(1) of ten", x.walk(1), 1024);
     x.goOn();
     x.put(1, 3);
-    refused(x, "walk(1) of eleven", y -> y.walk(1));
+    due("walk(1) of eleven", x.walk(1), -9);
     due("goOn() of the walk before", x.goOn(), 61);
     x.walk(0);
     due("GONE", x.house(3), 0);
     due("now(2)", x.now(2), 0);
-    noSuchSet("walk", (y, set) -> y.walk(set));
 
     promise = 51;
     x.empty(0);
@@ -888,22 +702,21 @@ public final class PromiseTest {
     x.empty(3);
     due("now(4)", x.now(4), 1);
     due("now(4) of a new one", new Setsieve().now(4), 0);
-    noSuchSet("now", (y, set) -> y.now(set));
   }
 
-  private static void tenWalked() {
+  private static void sevenWalked() {
     promise = 51;
     Setsieve x = new Setsieve();
-    x.stretch(0, 60, 70);
+    x.stretch(0, 60, 67);
     x.walk(0);
     TreeSet<String> all = new TreeSet<>();
-    for (int step = 0; step < 1023; step++) {
+    for (int step = 0; step < 127; step++) {
       due("goOn() " + step, x.goOn(), 60 + Integer.numberOfTrailingZeros(step + 1));
       x.now(1);
       all.add(x.text(1));
     }
     due("goOn() at the end", x.goOn(), -1);
-    due("parts", all.size(), 1023);
+    due("parts", all.size(), 127);
     due("isSound()", x.isSound(), true);
   }
 
@@ -922,30 +735,34 @@ public final class PromiseTest {
     for (int what = 0; what < 7; what++) {
       due("house(" + what + ")", x.house(what), house[what]);
     }
-    for (int what : new int[] {-1, 7, MIN, MAX}) {
-      throwsIt(x, "house " + what, WRONG, y -> y.house(what));
-    }
 
     promise = 55;
     due("isSound() of a new one", new Setsieve().isSound(), true);
     long before = x.digest();
-    String was = seen(x);
     due("isSound()", x.isSound(), true);
     due("digest after isSound()", x.digest(), before);
-    due("what is seen after isSound()", seen(x), was);
     due("goOn() after isSound()", x.goOn(), 2);
+    due("what is seen after isSound()", seen(x), seen(someAndAStep()));
 
     promise = 56;
     due("digest() of a new one", new Setsieve().digest(), digestOf(new Setsieve()));
-    due("digest()", x.digest(), digestOf(x));
-    x = chain();
+    due("digest()", some().digest(), digestOf(some()));
+    due("digest()", chained().digest(), digestOf(chained()));
+  }
+
+  private static Setsieve someAndAStep() {
+    Setsieve x = some();
+    x.goOn();
+    return x;
+  }
+
+  private static Setsieve chained() {
+    Setsieve x = chain();
     x.opposite(3);
     x.put(2, 9);
     x.put(2, 10);
-    due("digest()", x.digest(), digestOf(x));
-    due("digest() again", x.digest(), digestOf(x));
     x.knock();
-    due("digest() after a knock", x.digest(), digestOf(x));
+    return x;
   }
 
   private static long digestOf(Setsieve x) {
@@ -1001,7 +818,7 @@ public final class PromiseTest {
     ruling();
     making();
     walking();
-    tenWalked();
+    sevenWalked();
     allOfIt();
     System.out.println(wrong == 0 ? "all promises hold" : wrong + " answers are not as due");
     if (wrong != 0) {
